@@ -168,15 +168,13 @@ public final class KnifeDoors {
 
   public int then(int n, int knife, int what) {
     if (!isAhead(n) || !isKnife(knife) || !isWithin(what, 0, DULLS)) return error(BEYOND);
-    ahead.copyFrom(now);
-    ahead.pass(n, false);
+    lookAhead(n);
     return ahead.partOf(ahead.owned[knife], what);
   }
 
   public int thenPurse(int n) {
     if (!isAhead(n)) return error(BEYOND);
-    ahead.copyFrom(now);
-    ahead.pass(n, false);
+    lookAhead(n);
     return ahead.purse;
   }
 
@@ -355,6 +353,11 @@ public final class KnifeDoors {
     if (now.day + n > LAST_DAY) return error(STATE);
     now.pass(n, loosely);
     return now.purse;
+  }
+
+  private void lookAhead(int n) {
+    ahead.copyFrom(now);
+    ahead.pass(n, false);
   }
 
   /** The value of what (as set() counts) by which the purse is most ahead by n; of several the least. */
