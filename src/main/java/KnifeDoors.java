@@ -704,8 +704,10 @@ public final class KnifeDoors {
         Knife knife = owned[i];
         boolean isTwice = loosely && draw() % 4 == 0;
         int cuts = isTwice ? 2 * knife.cuts : knife.cuts;
-        knife.sharp = Math.max(knife.sharp - cuts * dullsOf(knife), 0);
         knife.heat = 0;
+        // Cuts never sharpen: what is not cut with, or can't get duller, needs no law worked out.
+        if (cuts == 0 || knife.sharp == 0) continue;
+        knife.sharp = Math.max(knife.sharp - cuts * dullsOf(knife), 0);
       }
     }
 
@@ -987,7 +989,6 @@ public final class KnifeDoors {
     private static final int CUTS = 0;
     private static final int RINGS = 1;
     private static final int GRINDS = 2;
-    private static final int TELLS = 3;
     /** By kind, the body of each act: its own, or that of the next kind above that has one. */
     private static final int[] BODIES = {
       10, 11, 12, 13,

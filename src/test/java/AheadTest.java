@@ -163,5 +163,13 @@ final class AheadTest {
     Due.due("P20 behind 400", x.still(1, 400), Due.NONE);
     x.days(6);
     Due.due("P20 behind 400", x.still(1, 400), 400);
+    // worn by the visit that finds it just so blunt, which no loose day would leave it
+    KnifeDoors y = new KnifeDoors();
+    y.knife(0, 0, 10);
+    y.change(0, 4, 1);
+    y.set(6, 1);
+    Due.text(y, 1, "b=53");
+    Due.due("P20 by its cuts", y.still(0, 400), 15);
+    Due.due("P20 no draws", y.count(8), 1);
   }
 }
