@@ -9,8 +9,8 @@ final class AheadTest {
     Due.end();
   }
 
-  private static KnifeDoors street() {
-    KnifeDoors x = new KnifeDoors();
+  private static Doors street() {
+    Doors x = new Doors();
     x.knife(3, 0, 20);
     x.knife(14, 1, 31);
     x.knife(25, 2, 12);
@@ -20,14 +20,14 @@ final class AheadTest {
   }
 
   private static void then() {
-    KnifeDoors x = street();
-    KnifeDoors y = street();
+    Doors x = street();
+    Doors y = street();
     x.change(1, 5, 44);
     y.change(1, 5, 44);
-    Due.text(x, 0, "(s<30)-(t>180)");
-    Due.text(y, 0, "(s<30)-(t>180)");
-    Due.text(x, 1, "b-50+n*9-p");
-    Due.text(y, 1, "b-50+n*9-p");
+    Due.law(x, 0, "(s<30)-(t>180)");
+    Due.law(y, 0, "(s<30)-(t>180)");
+    Due.law(x, 1, "b-50+n*9-p");
+    Due.law(y, 1, "b-50+n*9-p");
     Due.due("P16 by 0", x.then(0, 1, 5), 44);
     int day = 0;
     int[] days = {1, 20, 21, 22, 43, 64, 127, 400};
@@ -54,12 +54,12 @@ final class AheadTest {
   }
 
   private static void thenPurse() {
-    KnifeDoors x = street();
+    Doors x = street();
     Due.due("P17 by 0", x.thenPurse(0), 0);
     Due.due("P17 by 1", x.thenPurse(1), 0);
     Due.due("P17 n -1", x.thenPurse(-1), Due.BEYOND);
     Due.due("P17 n 401", x.thenPurse(401), Due.BEYOND);
-    Due.text(x, 1, "b>30");
+    Due.law(x, 1, "b>30");
     Due.due("P17 by 1", x.thenPurse(1), 20);
     Due.due("P17 by 21", x.thenPurse(21), 20);
     Due.due("P17 by 22", x.thenPurse(22), 40);
@@ -69,41 +69,41 @@ final class AheadTest {
   }
 
   private static void often() {
-    KnifeDoors x = street();
+    Doors x = street();
     Due.due("P18 n -1", x.often(-1), Due.BEYOND);
     Due.due("P18 n 401", x.often(401), Due.BEYOND);
     Due.due("P18 by 0 the least", x.often(0), 1);
-    Due.text(x, 1, "b>90");
+    Due.law(x, 1, "b>90");
     bestIs(x, 100, false);
     bestIs(x, 400, false);
-    Due.text(x, 1, "b>98");
+    Due.law(x, 1, "b>98");
     bestIs(x, 400, false);
     x.set(6, 9);
     bestIs(x, 60, false);
     Due.due("P18 weeks stay", x.set(6, 3), 9);
     Due.due("P18 no day went by", x.count(0), 0);
     // he who comes on day 7 leaves it as the text never asks again; on day 14 it is so blunt that it is brought twice
-    KnifeDoors y = new KnifeDoors();
+    Doors y = new Doors();
     y.knife(0, 0, 10);
     y.change(0, 3, 42);
-    Due.text(y, 1, "b=64|b=71|b=65");
+    Due.law(y, 1, "b=64|b=71|b=65");
     Due.due("P18 seldom is better", y.often(29), 2);
     Due.due("P18 of several the least", y.often(28), 1);
     Due.due("P18 by day 14", y.often(14), 1);
   }
 
   private static void dear() {
-    KnifeDoors x = street();
+    Doors x = street();
     Due.due("P19 n -1", x.dear(-1), Due.BEYOND);
     Due.due("P19 n 401", x.dear(401), Due.BEYOND);
     Due.due("P19 by 0 the least", x.dear(0), 0);
     bestIs(x, 50, true);
     bestIs(x, 200, true);
-    Due.text(x, 1, "7-p");
+    Due.law(x, 1, "7-p");
     Due.due("P19 just brought", x.dear(1), 6);
-    Due.text(x, 1, "21-p");
+    Due.law(x, 1, "21-p");
     Due.due("P19 the dearest", x.dear(1), 20);
-    Due.text(x, 1, "p=6&h<2|p=4&h<3|p=12&h<1");
+    Due.law(x, 1, "p=6&h<2|p=4&h<3|p=12&h<1");
     Due.due("P19 of several the least", x.dear(1), 4);
     x.set(5, 9);
     bestIs(x, 60, true);
@@ -111,7 +111,7 @@ final class AheadTest {
   }
 
   /** Tries each number of weeks, or price, by thenPurse(). */
-  private static void bestIs(KnifeDoors x, int n, boolean price) {
+  private static void bestIs(Doors x, int n, boolean price) {
     int what = price ? 5 : 6;
     int was = x.set(what, 1);
     int best = -1;
@@ -129,14 +129,14 @@ final class AheadTest {
   }
 
   private static void still() {
-    KnifeDoors x = new KnifeDoors();
+    Doors x = new Doors();
     x.knife(60, 0, 0);
     x.knife(0, 1, 0);
     x.set(0, 0);
     x.set(1, 0);
     x.set(3, 0);
     x.set(6, 1);
-    Due.text(x, 1, "1");
+    Due.law(x, 1, "1");
     x.change(1, 4, 3);
     Due.due("P20 now", x.still(0, 0), 0);
     Due.due("P20 now", x.still(0, 400), 0);
@@ -164,11 +164,11 @@ final class AheadTest {
     x.days(6);
     Due.due("P20 behind 400", x.still(1, 400), 400);
     // worn by the visit that finds it just so blunt, which no loose day would leave it
-    KnifeDoors y = new KnifeDoors();
+    Doors y = new Doors();
     y.knife(0, 0, 10);
     y.change(0, 4, 1);
     y.set(6, 1);
-    Due.text(y, 1, "b=53");
+    Due.law(y, 1, "b=53");
     Due.due("P20 by its cuts", y.still(0, 400), 15);
     Due.due("P20 no draws", y.count(8), 1);
   }

@@ -14,7 +14,7 @@ final class DaysTest {
   }
 
   private static void visit() {
-    KnifeDoors x = new KnifeDoors();
+    Doors x = new Doors();
     Due.due("P13 no knives", x.visit(), 0);
     x.knife(0, 0, 0);
     x.change(0, 3, 49);
@@ -31,7 +31,7 @@ final class DaysTest {
   }
 
   private static void neighbours() {
-    KnifeDoors x = new KnifeDoors();
+    Doors x = new Doors();
     x.knife(0, 2, 0);
     x.knife(0, 3, 0);
     x.knife(0, 4, 0);
@@ -42,15 +42,15 @@ final class DaysTest {
     x.set(1, 0);
     x.set(2, 0);
     x.set(3, 0);
-    Due.text(x, 1, "n");
+    Due.law(x, 1, "n");
     Due.due("P13 none begins", x.visit(), 0);
-    Due.text(x, 1, "n+(h=2)");
+    Due.law(x, 1, "n+(h=2)");
     // house 2 begins; 3 has a neighbour; 4 has one; 2 again by itself; 0 has none; 5 has one.
     Due.due("P13 by neighbours", x.visit(), 5);
     Due.due("P13 house 0", x.ofKnife(4, 8), 0);
     Due.due("P13 house 5", x.ofKnife(5, 8), 1);
     Due.due("P13 forgotten by the next visit", x.visit(), 5);
-    Due.text(x, 1, "(h=2|h=4)&!n|n=2");
+    Due.law(x, 1, "(h=2|h=4)&!n|n=2");
     // 2; not 3 (n 1); 4; then 2 once more; house 0 and 5: n 0 or 1
     Due.due("P13 how many neighbours", x.visit(), 3);
     x.change(1, 2, 4);
@@ -61,28 +61,28 @@ final class DaysTest {
     x.change(0, 2, 2);
     x.change(1, 2, 2);
     x.change(2, 2, 2);
-    Due.text(x, 1, "!n");
+    Due.law(x, 1, "!n");
     Due.due("P13 a house is not next door to itself", x.visit(), 6);
-    Due.text(x, 1, "h=5|n");
+    Due.law(x, 1, "h=5|n");
     x.change(4, 2, 5);
     x.change(5, 2, 0);
     Due.due("P13 the row is no ring", x.visit(), 1);
   }
 
   private static void visitNames() {
-    KnifeDoors x = new KnifeDoors();
+    Doors x = new Doors();
     x.knife(0, 3, 0);
     x.change(0, 3, 90);
     x.set(5, 13);
-    Due.text(x, 1, "b=9&p=13&h=3&n=0");
+    Due.law(x, 1, "b=9&p=13&h=3&n=0");
     Due.due("P13 names", x.visit(), 1);
-    Due.text(x, 1, "0-1");
+    Due.law(x, 1, "0-1");
     Due.due("P13 below 0", x.visit(), 0);
     Due.due("P13 purse", x.count(2), 13);
   }
 
   private static void visitGrinds() {
-    KnifeDoors x = new KnifeDoors();
+    Doors x = new Doors();
     x.knife(14, 3, 0);
     x.change(0, 3, 0);
     x.visit();
@@ -114,7 +114,7 @@ final class DaysTest {
   }
 
   private static void purse() {
-    KnifeDoors x = new KnifeDoors();
+    Doors x = new Doors();
     x.knife(0, 0, 0);
     for (int i = 0; i < 4; i++) {
       x.set(i, 0);
@@ -124,7 +124,7 @@ final class DaysTest {
     }
     x.set(5, 20);
     x.set(6, 1);
-    Due.text(x, 1, "1");
+    Due.law(x, 1, "1");
     x.visit();
     Due.due("P13 all pay", x.count(2), 160);
     x.set(5, 0);
@@ -134,7 +134,7 @@ final class DaysTest {
   }
 
   private static void days() {
-    KnifeDoors x = new KnifeDoors();
+    Doors x = new Doors();
     x.knife(0, 0, 12);
     x.knife(10, 5, 93);
     x.change(0, 5, 9);
@@ -164,30 +164,30 @@ final class DaysTest {
   }
 
   private static void order() {
-    KnifeDoors x = new KnifeDoors();
+    Doors x = new Doors();
     x.knife(0, 0, 50);
     x.change(0, 3, 40);
     x.days(1);
     Due.due("P14 a visit on day 0, then cuts", x.ofKnife(0, 3), 40 + 6 + 4 + 2 - 5);
     Due.due("P14 a visit on day 0, then cuts", x.ofKnife(0, 8), 1);
-    KnifeDoors y = new KnifeDoors();
+    Doors y = new Doors();
     y.knife(30, 0, 90);
     y.change(0, 3, 23);
     y.set(6, 12);
-    Due.text(y, 1, "0");
+    Due.law(y, 1, "0");
     y.days(1);
     Due.due("P14 as it is ahead of the cuts", y.ofKnife(0, 3), 14);
     y.days(1);
     Due.due("P14 blunt below 20", y.ofKnife(0, 3), 14);
-    Due.text(y, 0, "(s=14)*2");
+    Due.law(y, 0, "(s=14)*2");
     y.days(1);
     Due.due("P14 by the text", y.ofKnife(0, 3), 0);
   }
 
   private static void lastDay() {
-    KnifeDoors x = new KnifeDoors();
+    Doors x = new Doors();
     x.knife(0, 0, 0);
-    Due.text(x, 1, "1");
+    Due.law(x, 1, "1");
     x.set(5, 20);
     x.set(6, 1);
     for (int i = 0; i < 24; i++) {
@@ -211,12 +211,12 @@ final class DaysTest {
   }
 
   private static void loose() {
-    KnifeDoors x = new KnifeDoors();
+    Doors x = new Doors();
     x.knife(0, 0, 10);
     x.knife(0, 2, 20);
     x.knife(0, 4, 10);
     x.set(6, 12);
-    Due.text(x, 1, "0");
+    Due.law(x, 1, "0");
     Due.due("P15 n 0", x.loose(0), Due.BEYOND);
     Due.due("P15 n 401", x.loose(401), Due.BEYOND);
     x.seed(8);
@@ -237,7 +237,7 @@ final class DaysTest {
     }
     Due.due("P15 some are twice", twice > 5 && twice < 40 ? 1 : 0, 1);
     Due.due("P15 day", x.count(0), 20);
-    Due.text(x, 1, "1");
+    Due.law(x, 1, "1");
     x.set(6, 1);
     Due.due("P15 no visit on day 20", x.loose(1), 0);
     Due.due("P15 a visit on day 21", x.loose(1), 12);

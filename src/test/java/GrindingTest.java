@@ -9,14 +9,14 @@ final class GrindingTest {
     Due.end();
   }
 
-  private static void leastIs(KnifeDoors x, int sharp, int... due) {
+  private static void leastIs(Doors x, int sharp, int... due) {
     for (int what = -1; what <= 3; what++) {
       Due.due("P21 least(0, " + sharp + ", " + what + ")", x.least(0, sharp, what), due[what + 1]);
     }
   }
 
   private static void least() {
-    KnifeDoors x = new KnifeDoors();
+    Doors x = new Doors();
     x.knife(0, 0, 0);
     leastIs(x, 0, 0, 0, 0, 0, 0);
     leastIs(x, 60, 0, 0, 0, 0, 0);
@@ -54,8 +54,8 @@ final class GrindingTest {
     }
   }
 
-  private static KnifeDoors with(int km, int sharp, int steel, int heat, int water) {
-    KnifeDoors x = new KnifeDoors();
+  private static Doors with(int km, int sharp, int steel, int heat, int water) {
+    Doors x = new Doors();
     x.knife(km, 0, 0);
     x.change(0, 3, sharp);
     x.change(0, 4, steel);
@@ -67,7 +67,7 @@ final class GrindingTest {
   private static void leastAgrees(int km, int sharp, int steel, int heat, int water) {
     int[] reached = new int[625];
     int[] taken = new int[625];
-    KnifeDoors all = with(km, sharp, steel, heat, water);
+    Doors all = with(km, sharp, steel, heat, water);
     for (int row = 0; row < 625; row++) {
       if (row % 25 == 0) all = with(km, sharp, steel, heat, water);
       all.become(0, km);
@@ -78,7 +78,7 @@ final class GrindingTest {
       reached[row] = all.ofKnife(0, 0) == km / 10 ? all.ofKnife(0, 3) : -1;
       taken[row] = steel - all.ofKnife(0, 4);
     }
-    KnifeDoors x = with(km, sharp, steel, heat, water);
+    Doors x = with(km, sharp, steel, heat, water);
     for (int wanted = 0; wanted < 100; wanted += 1) {
       int best = -1;
       for (int row = 0; row < 625; row++) {
@@ -102,14 +102,14 @@ final class GrindingTest {
     return on(row, 0) + on(row, 1) + on(row, 2) + on(row, 3);
   }
 
-  private static void grind(KnifeDoors x, int row) {
+  private static void grind(Doors x, int row) {
     for (int stone = 0; stone < 4; stone++) {
       if (on(row, stone) > 0) x.turn(0, stone, on(row, stone));
     }
   }
 
   private static void line() {
-    KnifeDoors x = new KnifeDoors();
+    Doors x = new Doors();
     x.knife(0, 0, 0);
     int[] cool = {11, 19, 59, 60};
     for (int stone = 0; stone < 4; stone++) {
@@ -147,7 +147,7 @@ final class GrindingTest {
   }
 
   private static void hand() {
-    KnifeDoors x = new KnifeDoors();
+    Doors x = new Doors();
     x.knife(0, 0, 0);
     Due.due("P23 by nothing", x.hand(0, 60, 200, -1), 1);
     for (int stone = 0; stone < 4; stone++) {
@@ -195,7 +195,7 @@ final class GrindingTest {
 
   private static void handAgrees(int km, int sharp, int steel, int water) {
     int[] ends = new int[625];
-    KnifeDoors all = with(km, sharp, steel, 0, water);
+    Doors all = with(km, sharp, steel, 0, water);
     for (int row = 0; row < 625; row++) {
       if (row % 25 == 0) all = with(km, sharp, steel, 0, water);
       all.become(0, km);
@@ -205,7 +205,7 @@ final class GrindingTest {
       grind(all, row);
       ends[row] = all.ofKnife(0, 3) * 1000 + all.ofKnife(0, 4);
     }
-    KnifeDoors x = with(km, 0, 0, 77, water);
+    Doors x = with(km, 0, 0, 77, water);
     for (int row = 0; row < 625; row += 7) {
       x.change(0, 3, ends[row] / 1000);
       x.change(0, 4, ends[row] % 1000);

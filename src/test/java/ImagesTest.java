@@ -11,15 +11,15 @@ final class ImagesTest {
   }
 
   /** An object in which nothing is as at first. */
-  private static KnifeDoors full() {
-    KnifeDoors x = new KnifeDoors();
+  private static Doors full() {
+    Doors x = new Doors();
     x.knife(13, 1, 52);
     x.knife(24, 2, 71);
     for (int what = 0; what < 7; what++) {
       x.set(what, what + 1);
     }
-    Due.text(x, 0, "s<30");
-    Due.text(x, 1, "b+n>20");
+    Due.law(x, 0, "s<30");
+    Due.law(x, 1, "b+n>20");
     x.loose(3);
     x.change(0, 5, 33);
     x.tell(x.then(1, 0, 3));
@@ -28,8 +28,8 @@ final class ImagesTest {
     return x;
   }
 
-  private static void same(String call, KnifeDoors x) {
-    KnifeDoors y = full();
+  private static void same(String call, Doors x) {
+    Doors y = full();
     Due.due(call + ", knives", x.count(1), 2);
     for (int what = 0; what <= 9; what++) {
       for (int knife = 0; knife < 2; knife++) {
@@ -51,10 +51,10 @@ final class ImagesTest {
     }
   }
 
-  private static void spoil(KnifeDoors x) {
+  private static void spoil(Doors x) {
     x.text(1);
-    Due.text(x, 0, "9");
-    Due.text(x, 1, "0");
+    Due.law(x, 0, "9");
+    Due.law(x, 1, "0");
     x.check(0);
     x.tell(1);
     Due.feed(x, "xyz");
@@ -74,7 +74,7 @@ final class ImagesTest {
   }
 
   private static void image() {
-    KnifeDoors x = full();
+    Doors x = full();
     Due.due("P32 none", x.restore(), Due.NONE);
     Due.due("P31 image", x.image(), 1);
     spoil(x);
@@ -95,7 +95,7 @@ final class ImagesTest {
   }
 
   private static void others() {
-    KnifeDoors x = new KnifeDoors();
+    Doors x = new Doors();
     x.knife(0, 0, 0);
     x.image();
     x.sheet(0, 8, 3);
@@ -125,7 +125,7 @@ final class ImagesTest {
   }
 
   private static void tell() {
-    KnifeDoors x = new KnifeDoors();
+    Doors x = new Doors();
     for (int i = 1; i <= 20; i++) {
       Due.due("P33 tell", x.tell(-i), i);
     }
@@ -137,7 +137,7 @@ final class ImagesTest {
   }
 
   private static void check() {
-    KnifeDoors x = new KnifeDoors();
+    Doors x = new Doors();
     x.knife(0, 0, 11);
     x.knife(0, 1, 20);
     x.set(6, 1);
@@ -150,7 +150,7 @@ final class ImagesTest {
     Due.due("P34 twenty", x.check(1), 0);
     Due.due("P34 none wait then", x.count(6), 0);
     Due.due("P34 no day went by", x.count(0), 5);
-    Due.text(x, 1, "0");
+    Due.law(x, 1, "0");
     for (int wrong = 0; wrong < 20; wrong++) {
       for (int i = 0; i < 20; i++) {
         x.tell(i == wrong || i == 19 ? 99 : 48 - 2 * i);
@@ -171,7 +171,7 @@ final class ImagesTest {
   }
 
   private static void count() {
-    KnifeDoors x = new KnifeDoors();
+    Doors x = new Doors();
     x.knife(0, 0, 0);
     x.knife(0, 3, 0);
     x.change(0, 4, 150);
@@ -195,7 +195,7 @@ final class ImagesTest {
   }
 
   private static void told() {
-    KnifeDoors x = new KnifeDoors();
+    Doors x = new Doors();
     Due.due("P36 k 0", x.told(0), Due.BEYOND);
     Due.due("P36 k 6", x.told(6), Due.BEYOND);
     Due.due("P36 counted, too", x.told(1), 2);

@@ -16,7 +16,7 @@ final class KnivesTest {
   }
 
   private static void newObject() {
-    KnifeDoors x = new KnifeDoors();
+    Doors x = new Doors();
     for (int what = 0; what <= 7; what++) {
       Due.due("P1 count(" + what + ")", x.count(what), 0);
     }
@@ -38,7 +38,7 @@ final class KnivesTest {
   }
 
   private static void knife() {
-    KnifeDoors x = new KnifeDoors();
+    Doors x = new Doors();
     Due.due("P2 km -1", x.knife(-1, 0, 0), Due.BEYOND);
     Due.due("P2 km 70", x.knife(70, 0, 0), Due.BEYOND);
     Due.due("P2 house -1", x.knife(0, -1, 0), Due.BEYOND);
@@ -66,7 +66,7 @@ final class KnivesTest {
   }
 
   private static void ofKnife() {
-    KnifeDoors x = new KnifeDoors();
+    Doors x = new Doors();
     x.knife(27, 4, 52);
     int[] made = {2, 7, 4, 60, 200, 0, 5, 2, 0, 2};
     for (int what = 0; what < made.length; what++) {
@@ -83,7 +83,7 @@ final class KnivesTest {
   private static void dulls() {
     int[][] byUse = {
       {1, 2, 3, 4}, {2, 4, 6, 8}, {0, 1, 2, 3}, {1, 1, 1, 1}, {9, 11, 13, 15}, {3, 4, 5, 6}, {2, 2, 2, 2}};
-    KnifeDoors x = new KnifeDoors();
+    Doors x = new Doors();
     x.knife(0, 0, 0);
     for (int kind = 0; kind < 7; kind++) {
       x.become(0, 10 * kind + 7);
@@ -113,7 +113,7 @@ final class KnivesTest {
   }
 
   private static void change() {
-    KnifeDoors x = new KnifeDoors();
+    Doors x = new Doors();
     x.knife(0, 3, 52);
     x.knife(11, 1, 41);
     int[] was = {0, 0, 3, 60, 200, 0, 5, 2};
@@ -142,7 +142,7 @@ final class KnivesTest {
   }
 
   private static void become() {
-    KnifeDoors x = new KnifeDoors();
+    Doors x = new Doors();
     x.knife(35, 3, 52);
     x.change(0, 3, 31);
     Due.due("P5 become", x.become(0, 69), 3);
@@ -162,7 +162,7 @@ final class KnivesTest {
 
   private static void as() {
     int[] above = {-1, 0, 0, 0, 1, 2, 3};
-    KnifeDoors x = new KnifeDoors();
+    Doors x = new Doors();
     x.knife(0, 0, 0);
     for (int kind = 0; kind < 7; kind++) {
       x.become(0, 10 * kind + kind + 2);
@@ -181,7 +181,7 @@ final class KnivesTest {
   private static void gains() {
     int[][] gains = {
       {8, 6, 4, 2}, {8, 6, 4, 2}, {9, 6, 4, 2}, {7, 5, 3, 1}, {4, 3, 2, 1}, {9, 6, 0, 0}, {1, 1, 1, 1}};
-    KnifeDoors x = new KnifeDoors();
+    Doors x = new Doors();
     x.knife(0, 0, 0);
     for (int kind = 0; kind < 7; kind++) {
       x.become(0, 10 * kind + 5);
@@ -200,7 +200,7 @@ final class KnivesTest {
     int[] steel = {197, 198, 199, 200};
     int[] heat = {5, 3, 1, 0};
     for (int stone = 0; stone < 4; stone++) {
-      KnifeDoors x = new KnifeDoors();
+      Doors x = new Doors();
       x.knife(3, 0, 0);
       x.change(0, 3, 10);
       Due.due("P8 a turn on " + stone, x.turn(0, stone, 1), 10 + 8 - 2 * stone);
@@ -217,7 +217,7 @@ final class KnivesTest {
       Due.due("P8 kind", x.ofKnife(0, 0), 0);
       Due.due("P8 ground", x.ofKnife(0, 8), 0);
     }
-    KnifeDoors x = new KnifeDoors();
+    Doors x = new Doors();
     x.knife(0, 0, 0);
     x.set(4, 9);
     x.change(0, 3, 0);
@@ -233,7 +233,7 @@ final class KnivesTest {
   }
 
   private static void turnSpoils() {
-    KnifeDoors x = new KnifeDoors();
+    Doors x = new Doors();
     x.knife(17, 0, 0);
     x.set(4, 0);
     x.change(0, 3, 0);
@@ -275,7 +275,7 @@ final class KnivesTest {
   }
 
   private static void set() {
-    KnifeDoors x = new KnifeDoors();
+    Doors x = new Doors();
     int[] first = {1, 1, 1, 1, 4, 4, 3};
     int[] most = {9, 9, 9, 9, 9, 20, 12};
     int[] least = {0, 0, 0, 0, 0, 0, 1};

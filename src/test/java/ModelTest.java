@@ -13,7 +13,7 @@ final class ModelTest {
     1 << 30, Integer.MAX_VALUE - 1, Integer.MAX_VALUE};
 
   private final Random random;
-  private final KnifeDoors doors = new KnifeDoors();
+  private final Doors doors = new Doors();
   private final Model model = new Model();
   private final int run;
   private int calls = 0;
@@ -71,7 +71,7 @@ final class ModelTest {
   }
 
   private void ofAll() {
-    for (int knife = 0; knife < doors.count(1); knife++) {
+    for (int knife = 0; knife < model.owned.size(); knife++) {
       call("ofKnife", knife, number(0, 9));
       call("voice", knife, number(0, 3), wide());
       call("trace", number(-1, 9));
@@ -252,7 +252,7 @@ final class ModelTest {
     calls++;
     String call = "run " + run + ", call " + calls + ": " + act + Arrays.toString(a);
     int want = model.answer(act, a);
-    Due.due(call, Calls.answer(doors, act, a), want);
+    Due.due(call, doors.call(act, a), want);
     return want;
   }
 }

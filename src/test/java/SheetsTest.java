@@ -10,7 +10,7 @@ final class SheetsTest {
   }
 
   private static void sheet() {
-    KnifeDoors x = new KnifeDoors();
+    Doors x = new Doors();
     int[] unlike = {-8, -1, 1, 7, 9, 24, 33, 64};
     for (int bits : unlike) {
       Due.due("P27 bits " + bits, x.sheet(0, bits, 1), Due.BEYOND);
@@ -29,7 +29,7 @@ final class SheetsTest {
     Due.due("P27 behind it", x.put(3, 40, 1), Due.BEYOND);
     Due.due("P27 all 0 again", x.sheet(3, 16, 40), 1);
     Due.due("P27 all 0 again", x.knives(3), 8);
-    x = new KnifeDoors();
+    x = new Doors();
     x.sheet(1, 8, 6);
     x.put(1, 0, 99);
     Due.due("P27 not 0", x.knives(1), 0);
@@ -45,7 +45,7 @@ final class SheetsTest {
   }
 
   private static void put() {
-    KnifeDoors x = new KnifeDoors();
+    Doors x = new Doors();
     x.sheet(0, 8, 3);
     x.sheet(1, 16, 3);
     x.sheet(2, 32, 3);
@@ -80,7 +80,7 @@ final class SheetsTest {
   }
 
   /** The numbers 0, 1, .. of a sheet are km of knives to come; the rest of each three is 0. */
-  private static void reads(String call, KnifeDoors x, int sheet, int... km) {
+  private static void reads(String call, Doors x, int sheet, int... km) {
     x.sheet(3, 32, 24);
     x.image();
     x.sheet(2, 32, 1);
@@ -96,7 +96,7 @@ final class SheetsTest {
   }
 
   private static void move() {
-    KnifeDoors x = new KnifeDoors();
+    Doors x = new Doors();
     x.sheet(0, 32, 7);
     x.sheet(1, 32, 4);
     for (int i = 0; i < 7; i++) {
@@ -116,7 +116,7 @@ final class SheetsTest {
   }
 
   private static void moveErrors() {
-    KnifeDoors x = new KnifeDoors();
+    Doors x = new Doors();
     x.sheet(0, 8, 5);
     x.sheet(1, 8, 3);
     x.sheet(2, 16, 3);
@@ -147,7 +147,7 @@ final class SheetsTest {
   }
 
   private static void knives() {
-    KnifeDoors x = new KnifeDoors();
+    Doors x = new Doors();
     x.sheet(0, 8, 40);
     Due.due("P30 sheet -1", x.knives(-1), Due.BEYOND);
     Due.due("P30 sheet 4", x.knives(4), Due.BEYOND);
@@ -178,7 +178,7 @@ final class SheetsTest {
     Due.due("P30 no errors", x.told(4), 0);
     Due.due("P30 full", x.knife(0, 0, 0), Due.FULL);
     for (int n = 0; n < 9; n++) {
-      KnifeDoors y = new KnifeDoors();
+      Doors y = new Doors();
       y.sheet(2, 16, n);
       Due.due("P30 not whole, n " + n, y.knives(2), n / 3);
     }

@@ -10,7 +10,7 @@ final class TextsTest {
   }
 
   private static void feed() {
-    KnifeDoors x = new KnifeDoors();
+    Doors x = new Doors();
     Due.due("P10 n 0", x.feed(49, 0), Due.BEYOND);
     Due.due("P10 n -1", x.feed(49, -1), Due.BEYOND);
     Due.due("P10 n 9", x.feed(49, 9), Due.BEYOND);
@@ -38,7 +38,7 @@ final class TextsTest {
   }
 
   private static void text() {
-    KnifeDoors x = new KnifeDoors();
+    Doors x = new Doors();
     Due.feed(x, "b+1");
     Due.due("P11 use 2", x.text(2), Due.BEYOND);
     Due.due("P11 use -1", x.text(-1), Due.BEYOND);
@@ -82,17 +82,17 @@ final class TextsTest {
       -1, 2, 1, 1, 1, 2, 3, 4, 4, 4, 4, 2, 1, 4, 6,
       -1, 13, -1, 11, -1, 5, -1, 5, -1, 9
     };
-    KnifeDoors x = new KnifeDoors();
+    Doors x = new Doors();
     Due.due("P11 as many", texts.length, due.length);
     for (int i = 0; i < texts.length && i < due.length; i++) {
-      if (i % 20 == 19) x = new KnifeDoors();
+      if (i % 20 == 19) x = new Doors();
       Due.due("P11 text " + texts[i], Due.text(x, 0, texts[i]), due[i] < 0 ? 1 : -10 - due[i]);
     }
     String long50 = "1+1+1+1+1+1+1+1+1+1+1+1+1+1+1+1+1+1+1+1+1+1+1+1+10";
-    x = new KnifeDoors();
+    x = new Doors();
     Due.due("P11 fifty bytes", Due.feed(x, long50), 50);
     Due.due("P11 fifty bytes", x.text(0), 1);
-    x = new KnifeDoors();
+    x = new Doors();
     Due.due("P11 fifty bytes", Due.feed(x, long50.replace("10", "1+")), 50);
     Due.due("P11 fifty bytes, too early", x.text(0), -60);
     x.feed(49 + 256 * 200, 2);
@@ -102,18 +102,18 @@ final class TextsTest {
   }
 
   private static void law() {
-    KnifeDoors x = new KnifeDoors();
+    Doors x = new Doors();
     Due.due("P12 use 2", x.law(2, 0, 0, 0, 0), Due.BEYOND);
     Due.due("P12 use -1", x.law(-1, 0, 0, 0, 0), Due.BEYOND);
     Due.due("P12 brings, none", x.law(1, 1000, 100, 10, 1), 1000 + 1000 - 50 - 30);
     Due.due("P12 brings, none, wraps", x.law(1, 0, 1 << 30, 0, 0), 10 * (1 << 30) - 30);
     Due.due("P12 wears, none", x.law(0, 1000, 100, 10, 1), 0);
-    Due.text(x, 0, "u+0");
+    Due.law(x, 0, "u+0");
     Due.due("P12 held above", x.law(0, 10, 0, 0, 0), 9);
     Due.due("P12 not held", x.law(0, 9, 0, 0, 0), 9);
     Due.due("P12 not held", x.law(0, -9, 0, 0, 0), -9);
     Due.due("P12 held below", x.law(0, -10, 0, 0, 0), -9);
-    Due.text(x, 1, "b+0");
+    Due.law(x, 1, "b+0");
     Due.due("P12 brings as it is", x.law(1, 10, 0, 0, 0), 10);
     Due.due("P12 brings as it is", x.law(1, Integer.MIN_VALUE, 0, 0, 0), Integer.MIN_VALUE);
     Due.due("P12 any number is no error", x.law(1, Due.KIND, 0, 0, 0), Due.KIND);
@@ -178,7 +178,7 @@ final class TextsTest {
 
   /** The text with b and n as given, p 5, h 6. */
   private static void calculates(String text, int b, int n, int due) {
-    KnifeDoors x = new KnifeDoors();
+    Doors x = new Doors();
     Due.due("P12 text " + text, Due.text(x, 1, text), 1);
     Due.due("P12 " + text + " by " + b + ", " + n, x.law(1, b, n, 5, 6), due);
   }

@@ -8,7 +8,7 @@ final class VoicesTest {
   }
 
   private static void seed() {
-    KnifeDoors x = new KnifeDoors();
+    Doors x = new Doors();
     Due.due("P24 first", x.seed(Integer.MIN_VALUE), 1);
     Due.due("P24 any number", x.seed(Due.BEYOND), Integer.MIN_VALUE);
     Due.due("P24 any number", x.seed(7), Due.BEYOND);
@@ -18,7 +18,7 @@ final class VoicesTest {
 
   /** What knife 3 of m 5 says by x, and by which bodies. */
   private static void says(int kind, int act, int x, int due, int... bodies) {
-    KnifeDoors doors = new KnifeDoors();
+    Doors doors = new Doors();
     for (int i = 0; i < 5; i++) {
       doors.knife(12, 0, 0);
     }
@@ -69,7 +69,7 @@ final class VoicesTest {
   }
 
   private static void errors() {
-    KnifeDoors x = new KnifeDoors();
+    Doors x = new Doors();
     x.knife(0, 0, 0);
     x.voice(0, 1, 0);
     Due.due("P25 knife -1", x.voice(-1, 0, 0), Due.BEYOND);
