@@ -232,6 +232,11 @@ final class EdgesOfAheadTest {
     x.tells(400, "still", 0, 400);
     x.change(0, 4, 59);
     x.refuses(Due.NONE, "still", 0, 400);
+    // brought only when it is just so blunt as by its own cuts, which no draws double
+    Doors cut = groundBy(1, 1, 1);
+    cut.change(0, 6, 1);
+    Due.law(cut, BRINGS, "b=53");
+    cut.tells(15, "still", 0, 400);
     // no STEEL, but no visit that would find it WORN
     Due.law(x, BRINGS, "0");
     x.change(0, 4, 0);

@@ -10,6 +10,7 @@ final class EdgesOfDaysTest {
     already();
     howManyNextDoor();
     aboveNothing();
+    namesOfAVisit();
     notWorn();
     groundOnWhenBurnt();
     groundOnWhenWorn();
@@ -98,6 +99,29 @@ final class EdgesOfDaysTest {
     refused.tells(0, "ofKnife", 0, 8);
   }
 
+  /** What each NAME of BRINGS is for a knife, at the ends of what it can be. */
+  private static void namesOfAVisit() {
+    Due.sentence("1 BRINGS, NAMES b 99 less SHARP, n (below), p PRICE, h HOUSE;");
+    int[] ends = {0, 1, 98, 99};
+    for (int sharp : ends) {
+      Doors x = street("b=" + (99 - sharp), 3);
+      x.change(0, 3, sharp);
+      x.takes(1, "visit");
+      x.change(0, 3, 50);
+      x.takes(0, "visit");
+    }
+    for (int price = 0; price <= 20; price += 20) {
+      Doors x = street("p=" + price, 3);
+      x.takes(0, "visit");
+      x.set(5, price);
+      x.takes(1, "visit");
+    }
+    for (int house = 0; house <= 5; house++) {
+      Doors x = street("h=" + house, 0, 1, 2, 3, 4, 5);
+      x.takes(1, "visit").tells(1, "ofKnife", house, 8);
+    }
+  }
+
   private static void notWorn() {
     Due.sentence("and the edge is not WORN");
     for (int kind = 0; kind <= WORN; kind++) {
@@ -158,6 +182,7 @@ final class EdgesOfDaysTest {
       for (int visits = 1; visits <= 3; visits++) {
         Due.due("visit()", x.visit(), 2);
         x.tells(2 * price * visits, "count", 2);
+        x.tells(2 * visits, "count", 4);
         x.tells(visits, "ofKnife", 0, 8);
         x.tells(0, "ofKnife", 1, 8);
         x.tells(visits, "ofKnife", 2, 8);

@@ -94,6 +94,10 @@ final class EdgesOfGrindingTest {
     // one turn on stone 0 would do, but takes 3; four on stone 3 take none
     leastIs(with(0, 0, 200, 0, 9), 8, 0, 0, 0, 0, 4);
     leastIs(with(0, 0, 200, 0, 9), 9, 1, 0, 0, 1, 3);
+    // a NICKED edge gains 9 on stone 0 for 3, but needs two turns for 4 on stone 1, and gains nothing behind it
+    leastIs(with(50, 0, 200, 0, 9), 9, 3, 1, 0, 0, 0);
+    leastIs(with(50, 0, 200, 0, 9), 10, 4, 0, 2, 0, 0);
+    leastIs(with(50, 0, 200, 0, 9), 15, 5, 1, 1, 0, 0);
     // what is left of a WORN edge's STEEL is all that can be taken
     Doors x = with(60, 0, 2, 0, 9);
     leastIs(x, 9, 2, 0, 1, 4, 4);
@@ -107,6 +111,8 @@ final class EdgesOfGrindingTest {
     for (int more = 0; more <= 8; more++) {
       leastIs(with(0, 60, 200, 0, 4), 60 + more, 0, 0, 0, 0, (more + 1) / 2);
     }
+    // 0, 3, 0, 0 and 2, 0, 0, 0 take 6, both for 18
+    leastIs(with(50, 0, 200, 0, 9), 18, 6, 2, 0, 0, 0);
     leastIs(with(60, 0, 0, 0, 9), 4, 0, 0, 0, 0, 4);
     leastIs(with(60, 0, 0, 0, 9), 5, 0, 0, 0, 1, 4);
   }
@@ -131,6 +137,15 @@ final class EdgesOfGrindingTest {
     x.range(-1, 3, 2, "least", 0, 0, 0);
     x.tells(0, "least", 0, 0, -1);
     x.refuses(Due.NONE, "least", 0, 99, -1);
+    // asked again and again, in between for none
+    Doors again = with(0, 0, 200, 0, 9);
+    for (int i = 0; i < 3; i++) {
+      Due.due("least(0, 80, 3)", again.least(0, 80, 3), 4);
+      Due.due("least(0, 1, 3)", again.least(0, 1, 3), 1);
+      Due.due("least(0, 81, 3)", again.least(0, 81, 3), Due.NONE);
+      Due.due("hand(0, 0, 200, -1)", again.hand(0, 0, 200, -1), 1);
+      Due.due("hand(0, 0, 200, 3)", again.hand(0, 0, 200, 3), 0);
+    }
     Doors y = with(0, 99, 200, 0, 4);
     y.range(0, 99, 1, "least", 0, 0, -1);
     new Doors().refuses(Due.BEYOND, "least", 0, 0, -1);
@@ -225,6 +240,12 @@ final class EdgesOfGrindingTest {
     x.tells(1, "hand", 0, 52, 200, -1);
     x.tells(4, "hand", 0, 52, 200, 3);
     x.tells(0, "hand", 0, 50, 200, -1);
+    // HEAT is 62 behind the last turn of all; from HEAT 1 it would be 60 behind the one ahead
+    Doors warm = with(10, 50, 187, 99, 0);
+    int[] row = {1, 1, 3, 4, 4};
+    for (int what = -1; what <= 3; what++) {
+      warm.tells(row[what + 1], "hand", 0, 0, 200, what);
+    }
     // all there is: 4 turns on each, and not a fifth
     Doors all = with(0, 80, 176, 0, 9);
     all.tells(1, "hand", 0, 0, 200, -1);

@@ -138,9 +138,27 @@ final class EdgesOfImagesTest {
     filled.days(400);
     Due.due("restore()", filled.restore(), 0);
     Whole.same("an image of nothing:", filled, empty, 0);
+    // knives that come behind an image of none are new
+    Doors newer = filled.again();
+    newer.visit();
+    newer.restore();
+    int[] made = {0, 0, 0, 60, 200, 0, 0, 0, 0, 1};
+    for (int knife = 0; knife < 8; knife++) {
+      Due.due("knife()", newer.knife(0, 0, 0), knife);
+      for (int what = 0; what < made.length; what++) {
+        Due.due("ofKnife(" + knife + ", " + what + ")", newer.ofKnife(knife, what), made[what]);
+      }
+    }
     Doors emptied = full.again();
     emptied.check(0);
     emptied.text(0);
+    for (int i = 0; i < 6; i++) {
+      emptied.feed(0x2828282828282828L, 8);
+    }
+    emptied.feed(0x2828, 2);
+    for (int i = 0; i < 20; i++) {
+      emptied.tell(-1);
+    }
     Due.due("restore()", emptied.restore(), 9999);
     Whole.same("an image of all there can be:", emptied, full, 0);
     full.tells(9999, "count", 0);

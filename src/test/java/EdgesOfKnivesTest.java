@@ -225,7 +225,7 @@ final class EdgesOfKnivesTest {
       x.refusesBeyond(0, 2, 0, "change", 0, what, 0);
     }
     x.range(2, 7, 1, "change", 0, 2, 0);
-    int[] others = {0, 1, 8, 9, 10};
+    int[] others = {Integer.MIN_VALUE, -1, 0, 1, 8, 9, 10, Integer.MAX_VALUE};
     for (int what : others) {
       x.refuses(Due.BEYOND, "change", 0, what, 0);
     }

@@ -145,6 +145,7 @@ final class EdgesOfTextsTest {
     reads("10000", -14);
     reads("b+12345", -16);
     reads("(1234)5", -16);
+    reads("(1)5", -13);
     reads("!1234", 1);
     reads("!12345", -15);
     reads("12b", -12);
@@ -217,6 +218,13 @@ final class EdgesOfTextsTest {
     reads("!(!(b)+(b)+!!b)", 1);
     reads("!(!(b)+!!!!b)", -20);
     reads("!(!(b)+!!!b)", 1);
+    // what a fault leaves open is not open in the next text
+    Doors x = new Doors();
+    for (int i = 0; i < 3; i++) {
+      Due.due("text(1) of (((((b", Due.text(x, BRINGS, "(((((b"), -16);
+      Due.due("text(1) of !!!!!!", Due.text(x, BRINGS, "!!!!!!"), -15);
+      Due.due("text(1) of !((((b))))", Due.text(x, BRINGS, "!((((b))))"), 1);
+    }
   }
 
   private static void wraps() {

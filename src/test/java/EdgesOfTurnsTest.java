@@ -13,6 +13,7 @@ final class EdgesOfTurnsTest {
     dullsOfEdges();
     dullsOfBlunt();
     dullsWithWears();
+    wearsOfAKnife();
     dullsAtMost();
     gainsByKind();
     sharpAtMost();
@@ -98,6 +99,35 @@ final class EdgesOfTurnsTest {
     x.tells(0, "ofKnife", 0, 9);
     Due.law(x, 0, "1");
     x.tells(1, "ofKnife", 0, 9);
+  }
+
+  /** What each NAME of WEARS is for a knife of which no two numbers are alike. */
+  private static void wearsOfAKnife() {
+    Due.sentence("NAMES u USE, s SHARP, t STEEL, m m; held within -9 to 9");
+    Doors x = new Doors();
+    for (int i = 0; i < 4; i++) {
+      x.knife(0, 0, 0);
+    }
+    x.knife(17, 5, 92);
+    x.change(4, 3, 61);
+    x.change(4, 4, 201);
+    x.change(4, 5, 33);
+    String[] names = {"u=2", "s=61", "t=201", "m=7"};
+    for (String name : names) {
+      x.tells(6, "ofKnife", 4, 9);
+      Doors y = x.again();
+      Due.law(y, 0, name);
+      y.tells(7, "ofKnife", 4, 9);
+    }
+    int[] parts = {7, 3, 4};
+    String[] ends = {"u=3&s=61&t=201&m=7", "u=3&s=99&t=201&m=7", "u=3&s=99&t=999&m=7"};
+    int[] most = {3, 99, 999};
+    for (int i = 0; i < parts.length; i++) {
+      x.change(4, parts[i], most[i]);
+      Doors y = x.again();
+      Due.law(y, 0, ends[i]);
+      y.tells(9, "ofKnife", 4, 9);
+    }
   }
 
   private static void dullsAtMost() {

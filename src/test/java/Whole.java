@@ -69,6 +69,11 @@ final class Whole {
     }
     laws();
     ask("thenPurse", 100);
+    ask("dear", 30);
+    ask("still", 0, 100);
+    ask("least", 0, 50, -1);
+    ask("hand", 0, 60, 200, -1);
+    ask("line", 0, 1);
   }
 
   private void laws() {
