@@ -31,6 +31,15 @@ final class Doors {
     return other;
   }
 
+  /** The model, to which all calls of this one were told. */
+  Model asModel() {
+    Model model = new Model();
+    for (Call c : calls) {
+      model.answer(c.act, c.a);
+    }
+    return model;
+  }
+
   int calls() {
     return calls.size();
   }
